@@ -144,12 +144,13 @@ public final class Promise06RunTest {
         refused("n is 0", ILL_MADE, 0, 0);
         refused("n is 0, more behind it", ILL_MADE, then(0, 0));
         refused("what is 0", ILL_MADE, 0, 1, 0);
-        refused("what is 0, n is 3", ILL_MADE, then(0, 3, 0, 1, 1));
-        refused("END of two bytes", ILL_MADE, then(0, 2, 1, 0));
-        refused("END of five bytes", ILL_MADE, then(0, 5, 1, 0, 0, 0, 0));
+        refused("what is 0, n is 3", ILL_MADE, then(0, 3, 0, 7, 7));
+        refused("END of two bytes", ILL_MADE, then(0, 2, 1, 7));
+        refused("END of five bytes", ILL_MADE, then(0, 5, 1, 7, 7, 7, 7));
         refused("an address of no bytes", ILL_MADE, then(0, 1, 2));
         refused("an address of three bytes", ILL_MADE, then(0, 4, 2, 0, 0, 0));
-        refused("an address of five bytes", ILL_MADE, then(0, 6, 2, 0, 0, 0, 0, 0));
+        refused("an address of three bytes that takes another one", ILL_MADE, then(0, 4, 2, 0, 0, 0, 7));
+        refused("an address of five bytes", ILL_MADE, then(0, 6, 2, 0, 0, 0, 0, 7));
         refused("an address of five bytes, too big", ILL_MADE, then(0, 6, 2, 255, 255, 255, 255, 255));
         accepted("n in more bytes than it needs", 1, 0, 129, 128, 0, 1);
     }

@@ -4,6 +4,7 @@ public final class Promise08FindTest {
         oneSequence();
         rowsAtOneAddress();
         severalSequences();
+        earlierRows();
         Checks.finish();
     }
 
@@ -43,6 +44,26 @@ public final class Promise08FindTest {
         found("in the gap, the LAST row's address", gap, 3, -1);
         found("in the gap", gap, 8, -1);
         found("behind the gap", gap, 9, 2);
+    }
+
+    private static void earlierRows() {
+        LinePrograms x = Checks.program(2, 10, 1, 1, 2, 5, 1, 2, 5, 0, 1, 1);
+        x.run();
+        x.run();
+        Checks.equal("find in the first program", 2, x.find(15));
+        x.clear();
+        Checks.putAll(x, 2, 3, 1, 2, 1, 0, 1, 1);
+        x.run();
+        Checks.equal("find in the second program", 0, x.find(3));
+        Checks.equal("find of what the first program had", -1, x.find(10));
+        Checks.equal("find of what the first program had, later", -1, x.find(15));
+        x.put(2);
+        Checks.refused("run", IndexOutOfBoundsException.class, x::run);
+        Checks.equal("find behind a refused run", 0, x.find(3));
+        x.clear();
+        Checks.equal("find without the program", 0, x.find(3));
+        x.run();
+        Checks.equal("find behind a run of nothing", -1, x.find(3));
     }
 
     private static void found(String what, int[] bytes, int address, int due) {

@@ -14,6 +14,7 @@ public final class Promise10WriteTest {
         otherHeaders();
         refusals();
         tooLong();
+        tooLongBehindAnother();
         behindIt();
         Checks.finish();
     }
@@ -148,6 +149,16 @@ public final class Promise10WriteTest {
         Checks.equal("run", 60, x.run());
         Checks.equal("the last entry", Checks.list(last, 2, 101, 1, 1, 0, 0), Checks.rowOf(x, 58));
         Checks.equal("the END", Checks.list(last + 127, 2, 101, 1, 1, 0, 1), Checks.rowOf(x, 59));
+    }
+
+    private static void tooLongBehindAnother() {
+        LinePrograms x = new LinePrograms();
+        give(x, entries(5, 1, 1, 0, 1));
+        x.write(5);
+        int last = Checks.fillAlmost(x);
+        Checks.refused("601 bytes behind another table", IllegalStateException.class, () -> x.write(last + 128));
+        Checks.equal("the written program stays", Checks.list(0, 5, 2, 5, 0, 0, 0, 18, 0, 1, 1), Checks.bytesOf(x));
+        Checks.equal("598 bytes behind a refusal", 598, x.write(last));
     }
 
     private static void behindIt() {
