@@ -1,4 +1,5 @@
 import java.util.Arrays;
+import java.util.List;
 
 /** What the tests share: answers that are compared and counted, and short ways to make objects. */
 final class Checks {
@@ -19,6 +20,13 @@ final class Checks {
         done++;
         if (!Arrays.equals(due, got)) {
             fail(what + " answered " + Arrays.toString(got) + ", due is " + Arrays.toString(due));
+        }
+    }
+
+    static void equal(String what, List<String> due, List<String> got) {
+        done++;
+        if (!due.equals(got)) {
+            fail(what + " answered " + got + ", due is " + due);
         }
     }
 
@@ -113,18 +121,5 @@ final class Checks {
         int[][] parts = new int[count][];
         Arrays.fill(parts, values);
         return joined(parts);
-    }
-
-    /**
-     * 59 entries that are 588 bytes long when written with the header as it is at first; with 7 for the start and
-     * 3 for the end these are 598. Answers the last one's address.
-     */
-    static int fillAlmost(LinePrograms x) {
-        int address = 0;
-        for (int i = 0; i < 59; i++) {
-            address = 100 * i;
-            x.entry(address, 2 + i % 2, i % 2 == 0 ? 101 : 1, 1 + i % 2, 1);
-        }
-        return address;
     }
 }
