@@ -65,7 +65,7 @@ public final class WholeLifeTest {
         Model model = samples.someModel();
         int[] h = {model.base, model.range, model.low, model.start};
         if (samples.below(2) == 0) {
-            h[samples.below(4)] = samples.below(40) - 25;
+            h[samples.below(4)] = samples.below(55) - 22;
         }
         same("header", () -> tried.header(h[0], h[1], h[2], h[3]) ? 1 : -1,
                 () -> due.header(h[0], h[1], h[2], h[3]) ? 1 : -1);
@@ -88,7 +88,7 @@ public final class WholeLifeTest {
             int[] given = e.clone();
             given[0] += more;
             if (samples.below(20) == 0) {
-                given[samples.below(5)] -= samples.below(2) == 0 ? 1 : samples.someNumber();
+                given[samples.below(5)] = samples.below(2) == 0 ? samples.below(5) - 2 : -samples.someNumber();
             }
             same("entry", () -> tried.entry(given[0], given[1], given[2], given[3], given[4]),
                     () -> due.entry(given[0], given[1], given[2], given[3], given[4]));
@@ -114,7 +114,7 @@ public final class WholeLifeTest {
     private void write() {
         int end = samples.below(4) == 0 ? samples.someNumber() : due.addressBefore() + samples.below(200) - 3;
         same("write", () -> tried.write(end), () -> due.write(end));
-        run();
+        askAbout();
     }
 
     private void run() {
